@@ -1,0 +1,140 @@
+import java.util.List;
+import java.util.Random;
+
+/** Plans on small made-up maps, always the same ones, against the model. */
+public final class RandomMapsTest {
+    private static int ways = 0;
+    private static int taken = 0;
+    private static int lasts = 0;
+    private static int repeats = 0;
+
+    private final Random random;
+    private final RouteGuide guide = new RouteGuide();
+    private final Model model = new Model();
+    private final String name;
+    private boolean planned = false;
+
+    private RandomMapsTest(int seed) {
+        random = new Random(seed);
+        name = "map " + seed + ": ";
+    }
+
+    public static void main(String[] args) {
+        for (int seed = 1; seed <= 400; seed++) {
+            RandomMapsTest test = new RandomMapsTest(seed);
+            test.makeMap();
+            for (int call = 0; call < 60; call++) {
+                test.call();
+            }
+        }
+        System.out.println(ways + " ways, " + taken + " taken by replan, " + lasts + " last chargers, "
+            + repeats + " ways with a street twice");
+        Check.isTrue("the maps try enough", ways > 1000 && taken > 100 && lasts > 100);
+        Check.end();
+    }
+
+    private int pick(int... choices) {
+        return choices[random.nextInt(choices.length)];
+    }
+
+    private void makeMap() {
+        int n = 2 + random.nextInt(5);
+        for (int i = 0; i < n; i++) {
+            long x = random.nextInt(4);
+            long y = random.nextInt(4);
+            model.nodes.add(new long[] {x, y});
+            guide.node(x, y);
+        }
+        int m = 3 + random.nextInt(9);
+        int style = random.nextInt(3);
+        for (int i = 0; i < m; i++) {
+            int a = 1 + random.nextInt(n);
+            int b = 1 + (a + random.nextInt(n - 1)) % n;
+            long metres = style == 0 ? pick(1, 2, 3) : style == 1 ? pick(20000, 40000, 60000) : pick(1, 20000, 90000);
+            long speed = style == 0 ? pick(500, 1000) : pick(500, 1000, 3);
+            int cls = style == 0 ? 0 : random.nextInt(4);
+            model.streets.add(new long[] {a, b, metres, speed, cls});
+            guide.street(a, b, metres, speed, cls);
+        }
+        for (int i = 0; i < m / 2; i++) {
+            setTurn();
+        }
+        for (int i = 0; i < n / 2; i++) {
+            setCharger();
+        }
+    }
+
+    private void call() {
+        switch (random.nextInt(8)) {
+            case 0 -> setTurn();
+            case 1 -> setCharger();
+            case 2, 3 -> setTraffic();
+            case 4, 5, 6 -> replan();
+            default -> plan();
+        }
+    }
+
+    private void setTurn() {
+        int m = model.streets.size();
+        int from = 1 + random.nextInt(m);
+        int to = 1 + random.nextInt(m);
+        boolean bar = random.nextBoolean();
+        long want = -2;
+        if (model.streets.get(from - 1)[1] == model.streets.get(to - 1)[0]) {
+            List<Integer> turn = List.of(from, to);
+            want = (bar ? model.barred.add(turn) : model.barred.remove(turn)) ? 1 : 0;
+        }
+        Check.due(name + "turn(" + from + ", " + to + ")", guide.turn(from, to, bar), want);
+    }
+
+    private void setCharger() {
+        int node = 1 + random.nextInt(model.nodes.size());
+        long rate = pick(0, 1, 400, 1000, 1000, 5000);
+        if (rate == 0) {
+            model.chargers.remove(node);
+        } else {
+            model.chargers.put(node, rate);
+        }
+        Check.due(name + "charger(" + node + ")", guide.charger(node, rate), model.chargers.size());
+    }
+
+    private void setTraffic() {
+        int s = 1 + random.nextInt(model.streets.size());
+        long speed = pick(0, 1, 500, 1000);
+        long until = Math.max(0, model.plans - 1 + random.nextInt(8));
+        model.traffic.put(s, new long[] {speed, until});
+        Check.due(name + "traffic(" + s + ")", guide.traffic(s, speed, until), model.trafficNext());
+    }
+
+    private void plan() {
+        int from = 1 + random.nextInt(model.nodes.size());
+        int to = 1 + random.nextInt(model.nodes.size());
+        int kind = pick(0, 1, 2, 2);
+        int energy = kind == 2 ? random.nextInt(random.nextBoolean() ? 21 : 4) : 0;
+        planned = true;
+        String what = name + "plan(" + from + ", " + to + ", " + kind + ", " + energy + ")";
+        Check.due(what, guide.plan(from, to, kind, energy), model.plan(from, to, kind, energy));
+        compare(what);
+    }
+
+    private void replan() {
+        long gain = pick(0, 0, 1, 2, 100, 20000);
+        int want = planned ? model.replan(gain) : -3;
+        Check.due(name + "replan(" + gain + ")", guide.replan(gain), want);
+        taken += want == 1 ? 1 : 0;
+        compare(name + "replan(" + gain + ")");
+    }
+
+    private void compare(String what) {
+        Check.due(what + " cost", guide.cost(), model.cost);
+        Check.due(what + " last", guide.last(), model.last);
+        lasts += model.last > 0 ? 1 : 0;
+        int size = model.row == null ? 0 : model.row.length;
+        for (int i = 0; i < size; i++) {
+            Check.due(what + " at(" + i + ")", guide.at(i), model.row[i]);
+        }
+        Check.due(what + " at(" + size + ")", guide.at(size), 0);
+        ways += size > 0 ? 1 : 0;
+        repeats += size > 0 && java.util.Arrays.stream(model.row).distinct().count() < size ? 1 : 0;
+    }
+}
