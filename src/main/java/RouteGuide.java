@@ -436,8 +436,8 @@ public final class RouteGuide {
 
     /** A row of streets with its cost, and which advice was asked for. */
     private static final class Way {
+        // Below 0 where the advice behind the street was asked for: a row less in the room.
         private final int[] row = new int[MAX_ROW];
-        private final boolean[] asked = new boolean[MAX_ROW];
         private int size = 0;
         private long total = 0L;
         private boolean there = false;
@@ -455,7 +455,7 @@ public final class RouteGuide {
         }
 
         int streetAt(int i) {
-            return i >= 0 && i < size ? row[i] : 0;
+            return i >= 0 && i < size ? Math.abs(row[i]) : 0;
         }
 
         void drop() {
@@ -467,7 +467,6 @@ public final class RouteGuide {
         void add(int s) {
             if (size < MAX_ROW) {
                 row[size] = s;
-                asked[size] = false;
                 size++;
             }
         }
@@ -478,10 +477,10 @@ public final class RouteGuide {
         }
 
         boolean askFirst(int i) {
-            if (i < 0 || i >= size || asked[i]) {
+            if (i < 0 || i >= size || row[i] < 0) {
                 return false;
             }
-            asked[i] = true;
+            row[i] = -row[i];
             return true;
         }
 
@@ -490,7 +489,7 @@ public final class RouteGuide {
                 return false;
             }
             for (int i = 0; i < size; i++) {
-                if (row[i] != other.row[i]) {
+                if (streetAt(i) != other.streetAt(i)) {
                     return false;
                 }
             }
