@@ -13,16 +13,8 @@ public final class GuideTest {
         Check.end();
     }
 
-    private static RouteGuide oneStreet(long ax, long ay, long bx, long by) {
-        RouteGuide g = new RouteGuide();
-        g.node(ax, ay);
-        g.node(bx, by);
-        g.street(1, 2, 1, 1, 0);
-        return g;
-    }
-
     private static void snapRefusals() {
-        RouteGuide g = oneStreet(0, 0, 10, 0);
+        RouteGuide g = Maps.oneStreet(0, 0, 10, 0);
         long[][] wrong = {{-20001, 0}, {20001, 0}, {0, -20001}, {0, 20001}, {1L << 32, 0}, {0, Long.MIN_VALUE}};
         for (long[] w : wrong) {
             Check.due("snap outside", g.snap(w[0], w[1], -1), -2);
@@ -35,7 +27,7 @@ public final class GuideTest {
     }
 
     private static void snapDistance() {
-        RouteGuide g = oneStreet(0, 0, 100, 0);
+        RouteGuide g = Maps.oneStreet(0, 0, 100, 0);
         Check.due("beside", g.snap(50, 50, -1), 1);
         Check.due("too far beside", g.snap(50, 51, -1), 0);
         Check.due("behind the beginning", g.snap(-30, 40, -1), 1);
@@ -60,14 +52,14 @@ public final class GuideTest {
         g.street(1, 2, 1, 1, 0);
         g.street(3, 4, 1, 1, 0);
         Check.due("0 and 4/10: both are 0", g.snap(1, 1, -1), 1);
-        RouteGuide h = oneStreet(0, 0, 1000, 999);
+        RouteGuide h = Maps.oneStreet(0, 0, 1000, 999);
         for (long x = 420; x <= 480; x++) {
             for (long y = 520; y <= 550; y++) {
                 long want = wholeSquare(x, y, 1000, 999) <= 2500 ? 1 : 0;
                 Check.due("snap(" + x + ", " + y + ")", h.snap(x, y, -1), want);
             }
         }
-        RouteGuide m = oneStreet(-10000, 0, 10000, 200);
+        RouteGuide m = Maps.oneStreet(-10000, 0, 10000, 200);
         Check.due("the square is 2499.75", m.snap(0, 150, -1), 1);
         Check.due("the square is 2500.75", m.snap(-1, 150, -1), 1);
         Check.due("the square is 2501.75", m.snap(-2, 150, -1), 0);
@@ -80,7 +72,7 @@ public final class GuideTest {
     }
 
     private static void snapFarPlaces() {
-        RouteGuide g = oneStreet(-10000, -10000, 10000, 10000);
+        RouteGuide g = Maps.oneStreet(-10000, -10000, 10000, 10000);
         Check.due("far place", g.snap(20000, -20000, -1), 0);
         Check.due("far place", g.snap(-20000, 20000, -1), 0);
         Check.due("far place", g.snap(-20000, -20000, -1), 0);
@@ -95,7 +87,7 @@ public final class GuideTest {
             {-10, 10, 3}, {-10, 9, 3}, {-10, 1, 3}, {-10, 0, 4}, {-10, -9, 4}, {-10, -10, 5}, {-9, -10, 5},
             {-1, -10, 5}, {0, -10, 6}, {9, -10, 6}, {10, -10, 7}, {10, -9, 7}, {10, -1, 7}};
         for (int[] step : steps) {
-            RouteGuide g = oneStreet(5, 5, 5 + step[0], 5 + step[1]);
+            RouteGuide g = Maps.oneStreet(5, 5, 5 + step[0], 5 + step[1]);
             for (int heading = 0; heading < 8; heading++) {
                 int apart = Math.floorMod(heading - step[2], 8);
                 int want = apart == 0 || apart == 1 || apart == 7 ? 1 : 0;
@@ -103,7 +95,7 @@ public final class GuideTest {
             }
             Check.due("step, any heading", g.snap(5, 5, -1), 1);
         }
-        RouteGuide none = oneStreet(5, 5, 5, 5);
+        RouteGuide none = Maps.oneStreet(5, 5, 5, 5);
         for (int heading = 0; heading < 8; heading++) {
             Check.due("a step of nothing, heading " + heading, none.snap(5, 5, heading), 0);
         }

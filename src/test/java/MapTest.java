@@ -79,18 +79,9 @@ public final class MapTest {
         Check.due("speed 0 but of one node", g.street(1, 1, 1, 0, 0), -2);
         Check.due("speed 0 but without length", g.street(1, 2, 0, 0, 0), -2);
         Check.due("speed 0 but of no class", g.street(1, 2, 1, 0, 4), -2);
-        Check.isTrue("speed 0 throws", throwsArithmetic(g));
+        Check.throwsForSpeed0("speed 0", g, 1, 2, 1, 0);
         Check.due("the exception changed nothing", g.street(1, 2, 1, 1, 0), 1);
-        Check.isTrue("speed 0 throws again", throwsArithmetic(g));
-    }
-
-    private static boolean throwsArithmetic(RouteGuide g) {
-        try {
-            g.street(1, 2, 1, 0, 0);
-            return false;
-        } catch (ArithmeticException e) {
-            return true;
-        }
+        Check.throwsForSpeed0("speed 0 again", g, 1, 2, 1, 0);
     }
 
     private static void turns() {

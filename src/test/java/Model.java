@@ -7,7 +7,7 @@ import java.util.Map;
 import java.util.Set;
 
 /**
- * The document's ways in another form, for comparison on small maps: forward, for each
+ * The document's ways in another form, for comparison: forward, for each
  * number of streets the least cost and row of each street and energy.
  */
 final class Model {
@@ -138,6 +138,7 @@ final class Model {
         Label best = null;
         Label[][] now = start();
         boolean[] seen = new boolean[streets.size() + 1];
+        Label[][] had = new Label[streets.size() + 1][21];
         for (int k = 0; k <= 20 * streets.size() + 1; k++) {
             Label[][] next = new Label[streets.size() + 1][21];
             boolean worth = false;
@@ -145,9 +146,11 @@ final class Model {
                 charge(s, now[s]);
                 for (int e = 0; e <= 20; e++) {
                     Label label = now[s][e];
-                    if (label == null) {
+                    // What was had by fewer streets for no more can't become a lesser way.
+                    if (label == null || !label.isLess(had[s][e])) {
                         continue;
                     }
+                    had[s][e] = label;
                     seen[s] = true;
                     if (end(s) == to) {
                         best = label.isLess(best) ? label : best;

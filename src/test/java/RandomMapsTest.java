@@ -1,7 +1,7 @@
 import java.util.List;
 import java.util.Random;
 
-/** Plans on small made-up maps, always the same ones, against the model. */
+/** Plans on made-up maps, small and full, always the same ones, against the model. */
 public final class RandomMapsTest {
     private static int ways = 0;
     private static int taken = 0;
@@ -13,6 +13,7 @@ public final class RandomMapsTest {
     private final Model model = new Model();
     private final String name;
     private boolean planned = false;
+    private int exit = 0;
 
     private RandomMapsTest(int seed) {
         random = new Random(seed);
@@ -22,14 +23,22 @@ public final class RandomMapsTest {
     public static void main(String[] args) {
         for (int seed = 1; seed <= 400; seed++) {
             RandomMapsTest test = new RandomMapsTest(seed);
-            test.makeMap();
-            for (int call = 0; call < 60; call++) {
-                test.call();
-            }
+            test.makeMap(2 + test.random.nextInt(5), 3 + test.random.nextInt(9));
+            test.calls(60);
+        }
+        for (int seed = 401; seed <= 500; seed++) {
+            RandomMapsTest test = new RandomMapsTest(seed);
+            test.makeRing();
+            test.calls(60);
+        }
+        for (int seed = 501; seed <= 540; seed++) {
+            RandomMapsTest test = new RandomMapsTest(seed);
+            test.makeMap(60, 120);
+            test.calls(20);
         }
         System.out.println(ways + " ways, " + taken + " taken by replan, " + lasts + " last chargers, "
             + repeats + " ways with a street twice");
-        Check.isTrue("the maps try enough", ways > 1000 && taken > 100 && lasts > 100);
+        Check.isTrue("the maps try enough", ways > 1000 && taken > 100 && lasts > 100 && repeats > 50);
         Check.end();
     }
 
@@ -37,15 +46,8 @@ public final class RandomMapsTest {
         return choices[random.nextInt(choices.length)];
     }
 
-    private void makeMap() {
-        int n = 2 + random.nextInt(5);
-        for (int i = 0; i < n; i++) {
-            long x = random.nextInt(4);
-            long y = random.nextInt(4);
-            model.nodes.add(new long[] {x, y});
-            guide.node(x, y);
-        }
-        int m = 3 + random.nextInt(9);
+    private void makeMap(int n, int m) {
+        addNodes(n);
         int style = random.nextInt(3);
         for (int i = 0; i < m; i++) {
             int a = 1 + random.nextInt(n);
@@ -53,8 +55,7 @@ public final class RandomMapsTest {
             long metres = style == 0 ? pick(1, 2, 3) : style == 1 ? pick(20000, 40000, 60000) : pick(1, 20000, 90000);
             long speed = style == 0 ? pick(500, 1000) : pick(500, 1000, 3);
             int cls = style == 0 ? 0 : random.nextInt(4);
-            model.streets.add(new long[] {a, b, metres, speed, cls});
-            guide.street(a, b, metres, speed, cls);
+            addStreet(a, b, metres, speed, cls);
         }
         for (int i = 0; i < m / 2; i++) {
             setTurn();
@@ -64,13 +65,58 @@ public final class RandomMapsTest {
         }
     }
 
+    /** A ring that is left by a long street: often it must be driven to a charger and on again. */
+    private void makeRing() {
+        int n = 4 + random.nextInt(3);
+        addNodes(n + 1);
+        exit = n + 1;
+        int exits = 1 + random.nextInt(2);
+        for (int i = 0; i < exits; i++) {
+            addStreet(1 + random.nextInt(n), n + 1, pick(80000, 90000), 1000, 3);
+        }
+        for (int a = 1; a <= n; a++) {
+            addStreet(a, a % n + 1, pick(1, 2), pick(500, 1000), 0);
+        }
+        setCharger();
+        setCharger();
+    }
+
+    private void addNodes(int n) {
+        for (int i = 0; i < n; i++) {
+            long x = random.nextInt(4);
+            long y = random.nextInt(4);
+            model.nodes.add(new long[] {x, y});
+            guide.node(x, y);
+        }
+    }
+
+    private void addStreet(int a, int b, long metres, long speed, int cls) {
+        model.streets.add(new long[] {a, b, metres, speed, cls});
+        guide.street(a, b, metres, speed, cls);
+    }
+
+    private void calls(int count) {
+        for (int call = 0; call < count; call++) {
+            call();
+        }
+    }
+
     private void call() {
         switch (random.nextInt(8)) {
             case 0 -> setTurn();
             case 1 -> setCharger();
             case 2, 3 -> setTraffic();
-            case 4, 5, 6 -> replan();
+            case 4, 5 -> replan();
+            case 6 -> planOrReplan();
             default -> plan();
+        }
+    }
+
+    private void planOrReplan() {
+        if (exit > 0) {
+            plan();
+        } else {
+            replan();
         }
     }
 
@@ -111,6 +157,11 @@ public final class RandomMapsTest {
         int to = 1 + random.nextInt(model.nodes.size());
         int kind = pick(0, 1, 2, 2);
         int energy = kind == 2 ? random.nextInt(random.nextBoolean() ? 21 : 4) : 0;
+        if (exit > 0 && random.nextInt(4) > 0) {
+            to = exit;
+            kind = 2;
+            energy = random.nextInt(8);
+        }
         planned = true;
         String what = name + "plan(" + from + ", " + to + ", " + kind + ", " + energy + ")";
         Check.due(what, guide.plan(from, to, kind, energy), model.plan(from, to, kind, energy));
