@@ -36,6 +36,11 @@ public final class RandomMapsTest {
             test.makeMap(60, 120);
             test.calls(20);
         }
+        for (int seed = 541; seed <= 600; seed++) {
+            RandomMapsTest test = new RandomMapsTest(seed);
+            test.makeThicket(5 + test.random.nextInt(26), 120);
+            test.calls(30);
+        }
         System.out.println(ways + " ways, " + taken + " taken by replan, " + lasts + " last chargers, "
             + repeats + " ways with a street twice");
         Check.isTrue("the maps try enough", ways > 1000 && taken > 100 && lasts > 100 && repeats > 50);
@@ -79,6 +84,22 @@ public final class RandomMapsTest {
         }
         setCharger();
         setCharger();
+    }
+
+    /** Many streets of all lengths and speeds: what is least is often found late. */
+    private void makeThicket(int n, int m) {
+        addNodes(n);
+        for (int i = 0; i < m; i++) {
+            int a = 1 + random.nextInt(n);
+            int b = 1 + (a + random.nextInt(n - 1)) % n;
+            addStreet(a, b, 1 + random.nextInt(pick(5, 5000, 100000)), 1 + random.nextInt(1000), random.nextInt(4));
+        }
+        for (int i = 0; i < m; i++) {
+            setTurn();
+        }
+        for (int i = 0; i < n / 3; i++) {
+            setCharger();
+        }
     }
 
     private void addNodes(int n) {
