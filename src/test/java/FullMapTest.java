@@ -23,7 +23,7 @@ public final class FullMapTest {
         for (int s = 0; nodes >= 2 && s < 120; s++) {
             g.street(1 + r.nextInt(nodes), 1 + r.nextInt(nodes), 1 + r.nextInt(100000), 1 + r.nextInt(1000), r.nextInt(4));
         }
-        for (int call = 0; call < 330; call++) {
+        for (int call = 0; call < 329; call++) {
             try {
                 anyCall(g, r, r.nextInt(14));
             } catch (RuntimeException e) {
@@ -88,7 +88,7 @@ public final class FullMapTest {
         for (int s = 1; s <= 120; s++) {
             g.street(s <= 60 ? 1 : 2, s <= 60 ? 2 : 1, 121 - s, 1, 0);
         }
-        for (int call = 0; call < 300; call++) {
+        for (int call = 0; call < 190; call++) {
             Check.due("pair", g.plan(1, 2, 2, 20), 1);
             Check.due("pair street", g.at(0), 60);
         }

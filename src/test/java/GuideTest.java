@@ -52,8 +52,8 @@ public final class GuideTest {
         g.street(1, 2, 1, 1, 0);
         g.street(3, 4, 1, 1, 0);
         Check.due("0 and 4/10: both are 0", g.snap(1, 1, -1), 1);
-        RouteGuide h = Maps.oneStreet(0, 0, 1000, 999);
         for (long x = 420; x <= 480; x++) {
+            RouteGuide h = Maps.oneStreet(0, 0, 1000, 999);
             for (long y = 520; y <= 550; y++) {
                 long want = wholeSquare(x, y, 1000, 999) <= 2500 ? 1 : 0;
                 Check.due("snap(" + x + ", " + y + ")", h.snap(x, y, -1), want);
