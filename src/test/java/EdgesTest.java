@@ -10,6 +10,7 @@ public final class EdgesTest {
         plan();
         planOfNone();
         planOfManyStreets();
+        planOfTheSameStreets();
         at();
         cost();
         snapNearest();
@@ -243,6 +244,48 @@ public final class EdgesTest {
         }
         Check.due("charged on the way", g.plan(1, 60, 2, 0), 116);
         Maps.dueRow("charged on the way", g, 116 + 116, row);
+    }
+
+    /**
+     * Each round over street 1 begins with a unit more and so comes to a charger that is a street
+     * farther away, from which the way back is a street shorter; the last round is for the exit.
+     */
+    private static void planOfTheSameStreets() {
+        Check.sentence("each street takes its USE, which must be there");
+        RouteGuide g = Maps.withNodes(52);
+        int rounds = 17;
+        int exit = 52;
+        g.street(1, 2, 1, 1000, 0);
+        for (int k = 1; k <= rounds; k++) {
+            int out = k + 1;
+            int charger = 18 + k;
+            int back = k == rounds ? 1 : 35 + k;
+            g.street(out, charger, 1, 1000, 0);
+            g.street(charger, back, 1, 1000, 0);
+            if (k < rounds) {
+                g.street(out, k + 2, 1, 1000, 0);
+                g.street(back, k + 1 == rounds ? 1 : back + 1, 1, 1000, 0);
+            }
+            g.charger(charger, 1000);
+        }
+        g.street(2, exit, 85000, 1000, 3);
+        Check.due("a unit too few for the first round", g.plan(1, exit, 2, 1), -1);
+        Check.due("no charger in reach", g.last(), 0);
+        Check.due("all rounds", g.plan(1, exit, 2, 2), 18 + rounds * 18 + 1);
+        Check.due("all rounds: 324 streets of 1, the exit, and what is charged", g.cost(), 324 + 85000 + 324 + 18 - 2);
+        for (int round = 0; round <= rounds; round++) {
+            Check.due("round " + round + " begins", g.at(19 * round), 1);
+        }
+        Check.due("the last street", g.at(324), 1 + 4 * rounds - 2 + 1);
+        Check.due("no street behind it", g.at(325), 0);
+        Check.due("the last advice", g.advice(323, 2), 1);
+        Check.due("the last advice, asked", g.advice(323, 2), 0);
+        Check.due("the street is as before", g.at(323), 1);
+        Check.due("no advice behind it", g.advice(324, 2), -1);
+        Check.due("the same row", g.replan(0), 0);
+        Check.due("one unit more: a round less", g.plan(1, exit, 2, 3), 325 - 19);
+        Check.due("all but the exit's use", g.plan(1, exit, 2, 18), 325 - 19 * 16);
+        Check.due("enough", g.plan(1, exit, 2, 19), 2);
     }
 
     private static void at() {
